@@ -963,7 +963,7 @@ public final class MillTown {
             fault = 0;
             place = NONE;
             text.clear();
-            cut(tape, length);
+            cut(tape, Math.min(length, Math.min(tape.length, TAPE)));
             at = 0;
             now = tokens[0];
             for (int i = 0; i <= CLAUSES && fault == 0 && now != END; i++) {
@@ -1306,26 +1306,33 @@ public final class MillTown {
             return NONE;
         }
 
-        private Text textFor(Town town, int sort, int mill, int week, int known) {
+        /** THE TEXT for a sort of CLAUSES, null without one. */
+        Text textFor(Town town, int sort, int mill, int week, int known) {
             return textAt(town.forces.at(forceFor(town, sort, mill, week, known), FORCE_TEXT));
         }
 
         int hoursAt(Town town, int age, int mill, int week, int known) {
             Text ages = textFor(town, WORD_AGE, mill, week, known);
-            Text meals = textFor(town, WORD_MEALS, mill, week, known);
-            Text clean = textFor(town, WORD_CLEAN, mill, week, known);
-            int hours = ages == null ? USUAL_HOURS : hoursIn(ages, age);
-            hours -= meals == null ? 0 : meals.greatest(WORD_MEALS);
-            hours -= clean == null ? 0 : clean.greatest(WORD_CLEAN);
-            return Math.max(hours, 0);
+            return hoursBy(ages, breaksAt(town, mill, week, known), age);
         }
 
-        private static int hoursIn(Text text, int age) {
-            Rows clauses = text.clauses;
+        /** The hours that meals and cleaning take. */
+        int breaksAt(Town town, int mill, int week, int known) {
+            Text meals = textFor(town, WORD_MEALS, mill, week, known);
+            Text clean = textFor(town, WORD_CLEAN, mill, week, known);
+            int breaks = meals == null ? 0 : meals.greatest(WORD_MEALS);
+            return clean == null ? breaks : breaks + clean.greatest(WORD_CLEAN);
+        }
+
+        static int hoursBy(Text ages, int breaks, int age) {
+            if (ages == null) {
+                return Math.max(USUAL_HOURS - breaks, 0);
+            }
+            Rows clauses = ages.clauses;
             for (int c = 0; c < clauses.count; c++) {
                 if (clauses.at(c, CLAUSE_SORT) == WORD_AGE && clauses.at(c, CLAUSE_NUMBER) <= age
                         && age <= clauses.at(c, CLAUSE_TO)) {
-                    return clauses.at(c, CLAUSE_HOURS);
+                    return Math.max(clauses.at(c, CLAUSE_HOURS) - breaks, 0);
                 }
             }
             return 0;
@@ -1635,6 +1642,7 @@ public final class MillTown {
             }
             begin(town);
             fillPays(town);
+            fillHours(town);
             takeOrders(town);
             runMills(town);
             settleMills(town);
@@ -1648,7 +1656,7 @@ public final class MillTown {
 
         private void begin(Town town) {
             cotton = town.priceIn(COTTON, town.clock);
-            Arrays.fill(fullHours, NONE);
+            Arrays.fill(fullHours, 0);
             Arrays.fill(wages, 0);
             Arrays.fill(pays, NONE);
             town.orders.fillColumn(ORDER_TAKEN, 0);
@@ -1686,15 +1694,17 @@ public final class MillTown {
             return place >= 0 && place < pays.length ? pays[place] : 0;
         }
 
-        private int hoursOf(Town town, int person) {
-            if (person < 0 || person >= PERSONS) {
-                return 0;
+        /** THE TEXTS for HOURS are looked for once a MILL, not once a PERSON. */
+        private void fillHours(Town town) {
+            for (int mill = 0; mill < town.mills.count; mill++) {
+                Text ages = law.textFor(town, WORD_AGE, mill, town.clock, town.clock);
+                int breaks = law.breaksAt(town, mill, town.clock, town.clock);
+                for (int p = 0; p < town.persons.count && p < PERSONS; p++) {
+                    if (town.persons.at(p, PERSON_MILL) == mill) {
+                        fullHours[p] = Law.hoursBy(ages, breaks, town.persons.at(p, PERSON_AGE));
+                    }
+                }
             }
-            if (fullHours[person] == NONE) {
-                fullHours[person] = law.hoursAt(town, town.persons.at(person, PERSON_AGE),
-                        town.persons.at(person, PERSON_MILL), town.clock, town.clock);
-            }
-            return fullHours[person];
         }
 
         private void takeOrders(Town town) {
@@ -1758,9 +1768,9 @@ public final class MillTown {
 
         private int canMake(Town town, int mill, int kind) {
             int can = 0;
-            for (int p = 0; p < town.persons.count; p++) {
+            for (int p = 0; p < town.persons.count && p < PERSONS; p++) {
                 if (town.persons.at(p, PERSON_MILL) == mill && town.isWeaver(p)) {
-                    can += town.piecesOf(p, hoursOf(town, p), kind);
+                    can += town.piecesOf(p, fullHours[p], kind);
                 }
             }
             return can;
@@ -1771,7 +1781,7 @@ public final class MillTown {
                 int mill = town.persons.at(p, PERSON_MILL);
                 int run = mill == NONE ? STOP : town.mills.at(mill, MILL_RUN);
                 if (run != STOP) {
-                    int hours = run == FULL ? hoursOf(town, p) : hoursOf(town, p) / 2;
+                    int hours = run == FULL ? fullHours[p] : fullHours[p] / 2;
                     if (town.isWeaver(p)) {
                         earnPieces(town, p, weave(town, p, hours));
                     } else {
