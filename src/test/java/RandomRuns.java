@@ -18,9 +18,12 @@ public final class RandomRuns {
     private final List<String> log = new ArrayList<>();
     private final int loafTop;
     private final int payTop;
+    // 0: all calls; 1: mostly lists made from wishes; 2: mostly half time shared by many mills.
+    private final int bent;
 
     private RandomRuns(long seed) {
         random = new Random(seed);
+        bent = seed % 8 == 1 ? 1 : seed % 8 == 2 ? 2 : 0;
         loafTop = random.nextInt(3) == 0 ? 400 : 20;
         payTop = random.nextInt(3) == 0 ? 3000 : 60;
     }
@@ -238,7 +241,7 @@ public final class RandomRuns {
     }
 
     private void setUp() throws ReflectiveOperationException {
-        int mills = 1 + below(below(4) == 0 ? 9 : 3);
+        int mills = bent == 2 ? 3 + below(4) : 1 + below(below(4) == 0 ? 9 : 3);
         for (int i = 0; i < mills; i++) {
             call("mill", from(0, 60), from(50, 200), from(0, below(2) == 0 ? 1000000 : 20000), from(-1000, below(2) == 0 ? -900 : 1000));
         }
@@ -246,11 +249,11 @@ public final class RandomRuns {
         for (int i = 0; i < shops; i++) {
             call("shop", from(0, below(2) == 0 ? 100000 : 300), from(0, 400), from(0, below(2) == 0 ? 10 : 1000));
         }
-        int homes = 1 + below(below(4) == 0 ? 25 : 8);
+        int homes = bent == 2 ? 10 : 1 + below(below(4) == 0 ? 25 : 8);
         for (int i = 0; i < homes; i++) {
             call("home", one(2), from(0, below(2) == 0 ? 10000 : 100));
         }
-        int persons = 1 + below(below(4) == 0 ? 62 : 20);
+        int persons = bent == 2 ? 30 : 1 + below(below(4) == 0 ? 62 : 20);
         for (int i = 0; i < persons; i++) {
             call("person", one(3), from(5, 80), from(1, 10));
             if (below(4) != 0) {
@@ -373,6 +376,28 @@ public final class RandomRuns {
         }
     }
 
+    private void askBent() throws ReflectiveOperationException {
+        if (bent == 2) {
+            int most = from(0, below(3) == 0 ? 400 : 60);
+            for (int what = -2; what < count(1); what++) {
+                call("shared", most, what);
+            }
+            return;
+        }
+        if (below(3) == 0) {
+            call("wish", from(0, 5), below(4) == 0 ? -1 : from(0, below(8) == 0 ? 10000 : 400));
+        }
+        if (below(4) == 0) {
+            call("kind", from(0, 5), from(10, 200), from(20, 60), 10, 0, 0);
+        }
+        int base = from(0, 40);
+        int a = from(0, 40);
+        int b = from(0, 40);
+        for (int what = 0; what < 4; what++) {
+            call("made", base, a, b, what);
+        }
+    }
+
     private void bargain() throws ReflectiveOperationException {
         switch (below(8)) {
             case 0:
@@ -398,7 +423,9 @@ public final class RandomRuns {
         setUp();
         while (log.size() < CALLS) {
             int roll = below(20);
-            if (roll < 5) {
+            if (bent != 0 && roll < 8) {
+                askBent();
+            } else if (roll < 5) {
                 tell();
             } else if (roll < 6) {
                 feed(text());
