@@ -99,6 +99,12 @@ public final class TextTests {
         fault("Z", 1, 0);
         fault("z", 1, 0);
         fault("pricepicks;", 1, 0);
+        for (String letter : new String[] {"a", "z", "A", "Z"}) {
+            fault("price" + letter + " 1;", 1, 0);
+        }
+        for (String none : new String[] {"@", "[", "`", "{", ":", "!", "~", "\u0000", "\u00e9"}) {
+            fault("price" + none + " 1;", 1, 5);
+        }
         fault(" 1;", 1, 1);
         fault(";", 1, 0);
         fault("price 1", 1, 7);
@@ -169,6 +175,8 @@ public final class TextTests {
         fault("price --------min 1;", 1, 18);
         fault("price --------);", 1, 14);
         fault("price 1+(--------1);", 3, 16);
+        fault("price -------min(1,-2);", 3, 19);
+        fault("price -------min(-1,2);", 3, 17);
         fault("price (1)-(--------1);", 3, 18);
         fault("when not not not not not not not not not 1<2 add 1;", 3, 37);
         fault("when not not not not not not not not -1<2 add 1;", 3, 37);
@@ -184,6 +192,33 @@ public final class TextTests {
         fault(many + "1", 1, 192);
         fault(many + "price ;", 4, 192);
         fault(many + " !", 1, 193);
+    }
+
+    /** As many TOKENS as a tape can hold. */
+    private static void fullTapes() {
+        StringBuilder sum = new StringBuilder("price 1");
+        StringBuilder signs = new StringBuilder("price ");
+        while (sum.length() < 299) {
+            sum.append("+1");
+        }
+        while (signs.length() < 300) {
+            signs.append("1+");
+        }
+        right(sum + ";");
+        pay(sum + ";", 147);
+        fault(sum + "+", 1, 300);
+        fault(signs.toString(), 1, 300);
+        StringBuilder same = new StringBuilder();
+        for (int i = 0; i < 300; i++) {
+            same.append(';');
+        }
+        fault(same.toString(), 1, 0);
+        fault(same.toString().replace(';', '('), 1, 0);
+        fault("price " + same.substring(6).replace(';', '('), 3, 14);
+        fault("price " + same.substring(6).replace(';', '9'), 2, 6);
+        fault("price" + same.substring(5).replace(';', 'e'), 1, 0);
+        fault("when not " + same.substring(9).replace(';', '-'), 3, 16);
+        fault("price 1" + same.substring(7).replace(';', ' '), 1, 300);
     }
 
     private static void forces() {
@@ -369,6 +404,7 @@ public final class TextTests {
         texts();
         places();
         depths();
+        fullTapes();
         forces();
         sums();
         asks();
