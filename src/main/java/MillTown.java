@@ -1267,8 +1267,8 @@ public final class MillTown {
         private final Text[] texts = new Text[TEXTS];
         private final long[] above = new long[PLACES];
         private final long[] below = new long[PLACES];
-        private final int[] counted = new int[CLAUSES];
-        private int countedSize;
+        // A set, by CLAUSES (bits): they count in another order than that in which why tells them.
+        private int counted;
         private int payForce = NONE;
 
         /** The TEXT to read the next one into, null if there are as many as there can be. */
@@ -1342,13 +1342,22 @@ public final class MillTown {
             return payForce;
         }
 
-        /** The i-th CLAUSE that counted in the PAY worked last, as they counted: price ones first. */
+        /** The i-th of the TEXT's CLAUSES, as they stand there, that counted in the PAY worked last. */
         int countedClause(int i) {
-            return i >= 0 && i < countedSize && i < counted.length ? counted[i] : NONE;
+            int ahead = 0;
+            for (int c = 0; c < CLAUSES; c++) {
+                if ((counted >>> c & 1) != 0) {
+                    if (ahead == i) {
+                        return c;
+                    }
+                    ahead++;
+                }
+            }
+            return NONE;
         }
 
         int payAt(Town town, int kind, int mill, int week, int known) {
-            countedSize = 0;
+            counted = 0;
             payForce = forceFor(town, WORD_PRICE, mill, week, known);
             Text text = textAt(town.forces.at(payForce, FORCE_TEXT));
             if (text == null) {
@@ -1359,7 +1368,7 @@ public final class MillTown {
             count(text, town.kinds, kind, true);
             count(text, town.kinds, kind, false);
             if (below[0] == 0) {
-                countedSize = 0;
+                counted = 0;
                 return 0;
             }
             long whole = Math.max(above[0] / below[0], text.greatest(WORD_LEAST));
@@ -1378,11 +1387,10 @@ public final class MillTown {
                     run(text, text.clauses.at(c, CLAUSE_ASK), sum, kinds, kind);
                     counts = above[1] != 0;
                 }
-                if (counts && countedSize < counted.length) {
+                if (counts) {
                     run(text, sum, text.clauses.at(c, CLAUSE_END), kinds, kind);
                     join(text.clauses.at(c, CLAUSE_STEP), 0);
-                    counted[countedSize] = c;
-                    countedSize++;
+                    counted |= 1 << c;
                 }
             }
         }

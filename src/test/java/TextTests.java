@@ -348,8 +348,8 @@ public final class TextTests {
         int g = Due.enforce(t, "least 4; meals 1;");
         DUE.is(17, "forces", g - f, 1);
         DUE.is(17, "which force", t.why(0, 0, 0, 0, NONE), f);
-        // They counted in this order: the price SUMS together, then the others one behind the other.
-        int[] due = {1, 6, 3, 4, NONE};
+        // As they stand in the TEXT, although the price SUMS are worked first.
+        int[] due = {1, 3, 4, 6, NONE};
         for (int i = 0; i < due.length; i++) {
             DUE.is(17, "why " + i, t.why(0, 0, 0, 0, i), due[i]);
         }
@@ -365,6 +365,27 @@ public final class TextTests {
         DUE.is(17, "by which force it is lost", t.why(0, 0, 0, 0, NONE), lost);
         DUE.is(17, "why of what is lost", t.why(0, 0, 0, 0, 0), NONE);
         DUE.is(17, "why of a kind without that extra", t.why(1, 0, 0, 0, 0), 0);
+        reasonsOf("extra 0 add 1; price 5;", 0, 1);
+        reasonsOf("when 1<2 add 1; when 2<1 add 1; price 5; extra 0 take 1; least 2;", 0, 2, 3);
+        reasonsOf("extra 1 add 1/0; meals 1; when 1/0=1 add 1; price 5;", 3);
+        reasonsOf("when 1<2 take 1/0; price 5;");
+        reasonsOf("price 1;".repeat(23) + "extra 0 add 1;", 0, 1, 2, 3, 4, 5, 6, 7, 8, 9, 10, 11, 12, 13, 14, 15, 16, 17, 18,
+                19, 20, 21, 22, 23);
+    }
+
+    /** The CLAUSES of a TEXT that count for a KIND with the EXTRA 0 alone, and none behind or ahead of them. */
+    private static void reasonsOf(String text, int... due) {
+        MillTown t = new MillTown();
+        t.mill(1, 50, 0, 0);
+        t.kind(0, 60, 30, 10, 4, 1);
+        Due.enforce(t, text);
+        for (int i = 0; i < due.length; i++) {
+            DUE.is(17, "why " + i + " by " + text, t.why(0, 0, 0, 0, i), due[i]);
+        }
+        int[] beside = {due.length, 24, 31, 32, Integer.MAX_VALUE, -2, Integer.MIN_VALUE};
+        for (int i : beside) {
+            DUE.is(17, "why " + i + " by " + text, t.why(0, 0, 0, 0, i), i < due.length && i >= 0 ? due[i] : NONE);
+        }
     }
 
     private static void hours() {

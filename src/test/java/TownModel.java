@@ -452,7 +452,6 @@ public final class TownModel {
             for (int i = 0; i < text.size(); i++) {
                 if (text.get(i).sort.equals("price")) {
                     whole = Part.join('+', whole, text.get(i).sum.sum(k));
-                    counted.add(i);
                 }
             }
             int least = 0;
@@ -462,6 +461,8 @@ public final class TownModel {
                 boolean when = c.sort.equals("when") && c.either.so(k);
                 if (extra || when) {
                     whole = Part.join(c.takes ? '-' : '+', whole, c.sum.sum(k));
+                }
+                if (extra || when || c.sort.equals("price")) {
                     counted.add(i);
                 }
                 if (c.sort.equals("least")) {
