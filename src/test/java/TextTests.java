@@ -70,6 +70,24 @@ public final class TextTests {
         DUE.is(14, "its place", t.fault(1), 6);
     }
 
+    /** However many long TEXTS had a FAULT, or went with BACK, nothing of them is left in the next one. */
+    private static void textsInPlaceOfOthers() {
+        MillTown t = new MillTown();
+        t.mill(1, 50, 0, 0);
+        t.image();
+        for (int i = 0; i < 5; i++) {
+            DUE.is(13, "a long text with a fault", Due.read(t, "price 1" + "+1".repeat(140) + ";;"), NONE);
+            DUE.is(14, "its place", t.fault(1), 288);
+            Due.enforce(t, "least 9; extra 0 add 5; price 2" + "+2".repeat(120) + ";");
+            DUE.is(16, "pay by it", t.pay(0, 0, 0, 0), 242);
+            t.back();
+        }
+        Due.enforce(t, "price 3+4;");
+        DUE.is(13, "clauses of the next text", t.about(15), 1);
+        DUE.is(16, "pay by the next text", t.pay(0, 0, 0, 0), 7);
+        DUE.is(17, "why by the next text", t.why(0, 0, 0, 0, 0), 0);
+    }
+
     private static void fault(String text, int what, int place) {
         MillTown t = new MillTown();
         DUE.is(13, "text() of " + text, Due.read(t, text), what == 0 ? 0 : NONE);
@@ -423,6 +441,7 @@ public final class TextTests {
     public static void main(String[] args) {
         tape();
         texts();
+        textsInPlaceOfOthers();
         places();
         depths();
         fullTapes();
