@@ -44,6 +44,34 @@ public final class PlanTests {
         DUE.is(30, "a mill that is closed counts", closed().tried(NONE, NONE, 1, 4), 1);
     }
 
+    /** A TEXT that is TRIED holds in WEEK 399, too. */
+    private static void triesAtTheLast() {
+        MillTown t = Due.smallTown();
+        int dear = Due.read(t, "price 110;");
+        t.price(1, 0, 1);
+        for (int week = 1; week < 400; week++) {
+            t.price(1, week, NONE);
+        }
+        t.fund(100000, 0, 5);
+        t.strike(0, true);
+        for (int week = 0; week < 350; week += 50) {
+            t.weeks(50);
+        }
+        t.weeks(20);
+        t.strike(0, false);
+        t.order(0, 500, 100, 399, 399);
+        DUE.is(30, "tried over the last 30 weeks", t.tried(NONE, NONE, 30, 0), 120);
+        DUE.is(30, "a dear text over the last 30 weeks", t.tried(dear, NONE, 30, 0), 660);
+        DUE.is(30, "tried beyond the last", t.tried(NONE, NONE, 31, 0), NONE);
+        t.strike(0, true);
+        t.weeks(29);
+        t.strike(0, false);
+        DUE.is(30, "tried in the last week", t.tried(dear, 0, 1, 3), 660);
+        DUE.is(30, "tried beyond the last", t.tried(dear, 0, 2, 3), NONE);
+        t.weeks(1);
+        DUE.is(30, "tried with the clock at 400", t.tried(NONE, NONE, 1, 0), NONE);
+    }
+
     private static MillTown closed() {
         MillTown t = Due.smallTown();
         t.person(0, 30, 1);
@@ -85,6 +113,14 @@ public final class PlanTests {
         t.back();
         t.offer(1, 7);
         DUE.is(43, "an offer is as it was", t.meet(), 6);
+        t.offer(0, 1);
+        DUE.is(32, "the masters' is gone", t.meet(), NONE);
+        t.back();
+        t.offer(1, 9);
+        t.image();
+        t.offer(1, 5);
+        t.back();
+        DUE.is(43, "both are as they were", t.meet(), 7);
     }
 
     private static void made(MillTown t, int base, int a, int b, int... due) {
@@ -217,6 +253,23 @@ public final class PlanTests {
         shared(none, 0, 1, 0, 2);
     }
 
+    private static void sharingWithTooLittle() {
+        MillTown t = new MillTown();
+        t.mill(4, 100, 0, 0);
+        t.shop(0, 0, 0);
+        for (int home = 0; home < 24; home++) {
+            t.home(0, 0);
+            t.person(home, 30, 1);
+        }
+        shared(t, 5, 24, 0, 2);
+        // 60 hours for a coin each are just 4 loaves of 15.
+        t.work(23, 3, 0, 1);
+        t.mean(1, 15);
+        shared(t, 5, 23, 0, 2);
+        Due.enforce(t, "meals 1;");
+        shared(t, 5, 24, 0, 2);
+    }
+
     private static void sharingOfLearners() {
         MillTown t = closed();
         shared(t, 100, 1, 0, 0);
@@ -296,6 +349,45 @@ public final class PlanTests {
         loaf(t, 16, 0, 1, 2, 1, NONE);
         loaf(t, 17, 0, 1, NONE, NONE, NONE);
         loaf(t, 18, 1, 1, 1, 1, NONE);
+    }
+
+    private static void loavesOfTheLastHome() {
+        MillTown t = new MillTown();
+        t.shop(0, 0, 0);
+        for (int home = 0; home < 24; home++) {
+            t.home(0, 6);
+            t.person(home, 30, 1);
+        }
+        t.weeks(1);
+        for (int home = 0; home < 24; home++) {
+            loaf(t, home, home, 0, NONE, NONE, NONE);
+        }
+        loaf(t, 24, NONE, NONE, NONE, NONE, NONE);
+    }
+
+    /** A WEEK that went by with more PERSONS, and again, behind BACK, with fewer. */
+    private static void weeksGoneByAgain() {
+        MillTown t = Due.smallTown();
+        t.order(0, 100, 100, 0, 10);
+        t.strike(0, true);
+        t.image();
+        t.person(0, 30, 1);
+        t.mill(1, 100, 100, 0);
+        t.work(1, 3, 0, 2);
+        t.fund(1000, 0, 50);
+        t.weeks(1);
+        t.sheet(0);
+        DUE.is(39, "two with relief", t.onSheet(0, 0), 100);
+        loaf(t, 7, 0, 0, 0, 0, NONE);
+        t.back();
+        t.weeks(1);
+        DUE.is(44, "20 coins: three loaves", t.about(9), 3);
+        t.person(0, 30, 1);
+        t.sheet(0);
+        DUE.is(39, "nothing was paid", t.onSheet(0, 0), 0);
+        loaf(t, 0, 0, 0, NONE, NONE, NONE);
+        loaf(t, 2, 0, 0, NONE, NONE, NONE);
+        DUE.is(26, "wages of the one that came later", t.personOf(1, 8), 0);
     }
 
     private static void sheets() {
@@ -455,12 +547,16 @@ public final class PlanTests {
 
     public static void main(String[] args) {
         tries();
+        triesAtTheLast();
         offers();
         lists();
         proofs();
         sharing();
+        sharingWithTooLittle();
         sharingOfLearners();
         loaves();
+        loavesOfTheLastHome();
+        weeksGoneByAgain();
         sheets();
         sheetsAndBack();
         images();

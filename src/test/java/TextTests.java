@@ -186,6 +186,9 @@ public final class TextTests {
         right("when not not not not not not not not 1<2 add 1;");
         right("when not not not not not not not -1<(2) and not (((((((1)))))))=1 add ((((((((1))))))));");
         right("price min(min(min(min(min(min(min(min(1,2),2),2),2),2),2),2),2);");
+        right("price min(1,(((((((2))))))));");
+        right("price max((((((((1))))))),-------2);");
+        fault("price min(1,((((((((2)))))))));", 3, 19);
         fault("price (((((((((1)))))))));", 3, 14);
         fault("price ---------1;", 3, 14);
         fault("price --------(1);", 3, 14);

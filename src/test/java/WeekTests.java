@@ -515,6 +515,28 @@ public final class WeekTests {
         DUE.is(23, "four from week 3 on", between.homeOf(0, 2), 1);
     }
 
+    /** 18 coins of RELIEF buy 3 of 4 loaves: one that lacks is enough, and a WEEK without is enough to stay. */
+    private static void homesThatLackOneLoaf() {
+        MillTown t = new MillTown();
+        t.mill(1, 100, 0, 0);
+        t.shop(0, 0, 0);
+        t.home(0, 0);
+        t.person(0, 30, 1);
+        t.work(0, 1, 0, 1);
+        t.strike(0, true);
+        t.fund(1000, 0, 18);
+        t.weeks(3);
+        DUE.is(25, "one loaf lacks", t.homeOf(0, 6), 1);
+        t.image();
+        t.weeks(1);
+        DUE.is(23, "one loaf in each of four weeks", t.homeOf(0, 2), 1);
+        t.back();
+        t.fund(0, 0, 24);
+        t.weeks(1);
+        DUE.is(25, "none lacks", t.homeOf(0, 6), 0);
+        DUE.is(23, "three weeks, then one without", t.homeOf(0, 2), 0);
+    }
+
     private static void clocks() {
         MillTown t = new MillTown();
         DUE.is(23, "weeks(0)", t.weeks(0), NONE);
@@ -575,6 +597,7 @@ public final class WeekTests {
         theThreeWeeksAhead();
         needs();
         homesThatGo();
+        homesThatLackOneLoaf();
         clocks();
         others();
         DUE.close();
