@@ -253,6 +253,30 @@ public final class PlanTests {
         shared(none, 0, 1, 0, 2);
     }
 
+    /** HOME 0 and HOME 2 earn at the later MILL: a plan that STOPS the first one is THE BEST, though it comes last. */
+    private static void sharingForTheLaterMill() {
+        MillTown t = new MillTown();
+        t.mill(4, 100, 5000, -1000);
+        t.mill(4, 100, 5000, -1000);
+        t.shop(0, 0, 0);
+        for (int home = 0; home < 3; home++) {
+            t.home(0, 0);
+            t.person(home, 30, 5);
+        }
+        t.work(0, 1, 1, 4);
+        t.work(1, 1, 0, 4);
+        t.work(2, 3, 1, 2);
+        Due.enforce(t, "price 20;");
+        t.order(0, 12, 100, 0, 0);
+        t.weeks(1);
+        // NEED is 84 coins: 7 PIECES of 20 and 60 hours of 2 are enough, 4 PIECES and 30 hours aren't.
+        t.price(1, 1, 21);
+        shared(t, 7, 1, 7, 0, 2);
+        shared(t, 10, 1, 10, 1, 2);
+        shared(t, 14, 0, 14, 2, 2);
+        shared(t, 6, 3, 6, 1, 1);
+    }
+
     private static void sharingWithTooLittle() {
         MillTown t = new MillTown();
         t.mill(4, 100, 0, 0);
@@ -552,6 +576,7 @@ public final class PlanTests {
         lists();
         proofs();
         sharing();
+        sharingForTheLaterMill();
         sharingWithTooLittle();
         sharingOfLearners();
         loaves();
