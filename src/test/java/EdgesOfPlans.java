@@ -336,6 +336,16 @@ final class EdgesOfPlans {
         t.kind(0, 20, 20, 1, 0, 0);
         t.wish(0, 10);
         list(on, t, "2 more by A or B", new int[] {0, 2, 2}, 0, 2, 3, 0);
+        // WISHES that no list comes near to: B of 35 and of 39 are alike, 37 lies between.
+        MillTown far = new MillTown();
+        int[][] kinds = {{14, 53, 169}, {15, 28, 529}, {17, 40, 193}};
+        for (int kind = 0; kind < 3; kind++) {
+            far.kind(kind, kinds[kind][0], kinds[kind][1], 1, 0, 0);
+            far.wish(kind, kinds[kind][2]);
+        }
+        list(on, far, "B of 35 or 39", new int[] {40, 40, 37}, 40, 40, 35, 125130);
+        list(on, far, "B of 35", new int[] {40, 40, 36}, 40, 40, 35, 125130);
+        list(on, far, "B of 39", new int[] {40, 40, 38}, 40, 40, 39, 125130);
     }
 
     private static void proofs(Edge on) {
