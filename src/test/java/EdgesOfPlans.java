@@ -33,6 +33,7 @@ final class EdgesOfPlans {
         e.of("IV", "so that together not more than so many PIECES come", EdgesOfPlans::notMorePieces);
         e.of("IV", "FULL CAN by the KIND of its last ORDER (none: 0), HALF half of that, cut.", EdgesOfPlans::halfOfCan);
         e.of("IV", "REST as it is, YARN or ORDERS not asked", EdgesOfPlans::yarnNotAsked);
+        e.of("IV", "LEARNERS' rest to the teacher", EdgesOfPlans::learnersRest);
         e.of("IV", "HOMES, not GONE, whose PERSONS earn less than NEED * PRICE of a loaf.", EdgesOfPlans::hungry);
         e.of("IV", "the fewest HUNGRY; of like ones the most PIECES", EdgesOfPlans::fewestHungry);
         e.of("IV", "of these the first by MILLS (FULL, HALF, STOP; CLOSED ones STOP)", EdgesOfPlans::firstByMills);
@@ -304,6 +305,14 @@ final class EdgesOfPlans {
         t.wish(1, 10);
         t.wish(2, 13);
         list(on, t, "10, 10 and 13", new int[] {12, 0, 0}, 11, 0, 0, 6);
+        // 11, 11 and 12: 11 and a third; 11, 12 and 12: 11 and two thirds.
+        t.wish(0, 11);
+        t.wish(1, 11);
+        t.wish(2, 12);
+        list(on, t, "11, 11 and 12", new int[] {12, 0, 0}, 11, 0, 0, 1);
+        t.wish(1, 12);
+        list(on, t, "11, 12 and 12", new int[] {12, 0, 0}, 12, 0, 0, 1);
+        list(on, t, "11, 12 and 12 from 11", new int[] {11, 0, 0}, 11, 1, 0, 1);
         MillTown large = new MillTown();
         for (int kind = 0; kind < 6; kind++) {
             large.kind(kind, 10, 20, 1, 0, 0);
@@ -460,6 +469,29 @@ final class EdgesOfPlans {
         on.is("REST of new WORK", t.personOf(0, 7), 0);
         shared(on, t, 100, 0, 6, 2);
         on.is("REST is as it was", t.personOf(0, 7), 0);
+    }
+
+    /** The learner makes one PIECE in 60 hours, the teacher none; PAY is 47: 15 and 32 coins. */
+    private static void learnersRest(Edge on) {
+        int[][] due = {{3, 0}, {4, 1}, {8, 1}, {9, 2}};
+        for (int[] d : due) {
+            MillTown t = new MillTown();
+            t.mill(8, 50, 5000, -1000);
+            t.shop(0, 0, 0);
+            t.home(0, 0);
+            t.home(0, 0);
+            t.person(0, 40, 6);
+            t.person(1, 30, 6);
+            t.work(0, 1, 0, 1);
+            t.work(1, 2, 0, 1);
+            Due.enforce(t, "price 47; age 30 to 30 hours 60;");
+            t.order(0, 1, 100, 0, 0);
+            t.weeks(1);
+            on.is("the learner's", t.personOf(1, 8), 15);
+            t.price(1, 1, d[0]);
+            on.is("HUNGRY with loaves for " + d[0], t.shared(1, NONE), d[1]);
+            on.is("the MILL runs FULL", t.shared(1, 0), 2);
+        }
     }
 
     private static void hungry(Edge on) {
@@ -626,6 +658,7 @@ final class EdgesOfPlans {
         on.is("LOAVES of WEEK 2", t.about(9), 12);
         loaf(on, t, 8, 0, 2);
         loaf(on, t, 11, 0, 2, NONE, NONE, NONE);
+        loavesOnTrust(on);
         MillTown all = new MillTown();
         all.shop(0, 0, 0);
         for (int home = 0; home < 24; home++) {
@@ -635,6 +668,36 @@ final class EdgesOfPlans {
         all.weeks(1);
         for (int home = 0; home < 24; home++) {
             loaf(on, all, home, home, 0, NONE, NONE, NONE);
+        }
+    }
+
+    /** Two HOMES, each at a SHOP of its own, buy two LOAVES each and get one and two more on TRUST: 7. */
+    private static void loavesOnTrust(Edge on) {
+        MillTown t = new MillTown();
+        t.mill(8, 100, 9000, -1000);
+        t.shop(60, 400, 0);
+        t.shop(120, 400, 0);
+        for (int home = 0; home < 2; home++) {
+            t.home(home, 0);
+            t.person(home, 30, 5);
+            t.work(home, 1, 0, 4);
+        }
+        Due.enforce(t, "price 20;");
+        t.order(0, 12, 100, 0, 0);
+        t.price(1, 0, 60);
+        t.image();
+        for (int round = 0; round < 2; round++) {
+            t.weeks(1);
+            on.is("LOAVES, also on TRUST", t.about(9), 7);
+            int[] homes = {0, 0, 0, 1, 1, 1, 1};
+            int[] payers = {0, 0, NONE, 1, 1, NONE, NONE};
+            for (int i = 0; i < 7; i++) {
+                loaf(on, t, i, homes[i], 0, payers[i]);
+            }
+            on.is("none behind them", t.loaf(7, 0), NONE);
+            on.is("COINS of the first SHOP", t.shopOf(0, 0), 0);
+            on.is("COINS of the second", t.shopOf(1, 0), 0);
+            t.back();
         }
     }
 
