@@ -21,7 +21,7 @@ import javax.tools.SimpleJavaFileObject;
 import javax.tools.ToolProvider;
 
 /**
- * Holds the tests of edges against copies of the class in each of which one sentence is broken, as copies.txt tells
+ * Holds the tests of sentences against copies of the class in each of which one sentence is broken, as copies.txt tells
  * them: the test of that sentence must fail, and each sentence must have such a copy.
  */
 public final class BrokenCopies {

@@ -4,8 +4,9 @@ import java.util.List;
 import java.util.function.BooleanSupplier;
 import java.util.function.IntPredicate;
 import java.util.function.IntSupplier;
+import java.util.function.IntUnaryOperator;
 
-/** The test of one sentence of the document that names an edge: what is due on the edge and on either side of it. */
+/** The test of one sentence of the document: where it names an edge, what is due on the edge and on either side of it. */
 final class Edge {
     private static final int NONE = MillTown.NONE;
 
@@ -37,6 +38,20 @@ final class Edge {
 
     void no(String call, boolean got) {
         is(call, got ? 1 : 0, 0);
+    }
+
+    /** What a call answers for 0, 1 and so on. */
+    static int[] facts(int count, IntUnaryOperator fact) {
+        int[] all = new int[count];
+        Arrays.setAll(all, fact);
+        return all;
+    }
+
+    void are(String call, int[] got, int... due) {
+        is(call + ": how many", got.length, due.length);
+        for (int i = 0; i < Math.min(got.length, due.length); i++) {
+            is(call + " " + i, got[i], due[i]);
+        }
     }
 
     /** Taken from the least to the most, and not beside them, nor far off. */

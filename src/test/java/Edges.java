@@ -4,8 +4,8 @@ import java.util.List;
 import java.util.Map;
 
 /**
- * All tests of edges, each under the place in the document (I, II, III, IV of Terms, or a promise's number) and the
- * sentence there that names the edge, in the document's own words.
+ * All tests of sentences, most of which name an edge: each under the place in the document (I, II, III, IV of Terms, a
+ * promise's number, or "use" and "face" ahead of them) and the sentence there, in the document's own words.
  */
 final class Edges {
     interface Test {
@@ -51,6 +51,9 @@ final class Edges {
         EdgesOfTexts.all(edges);
         EdgesOfWeeks.all(edges);
         EdgesOfPlans.all(edges);
+        PlainOfTown.all(edges);
+        PlainOfWeeks.all(edges);
+        PlainOfPlans.all(edges);
         return edges;
     }
 

@@ -1,4 +1,6 @@
 import java.io.IOException;
+import java.lang.reflect.Method;
+import java.lang.reflect.Modifier;
 import java.nio.file.Files;
 import java.nio.file.Path;
 import java.util.Arrays;
@@ -25,23 +27,45 @@ public final class LanguageTest {
                 + "fault force pay why hours order terms fund strike weeks millOf homeOf personOf shopOf orderOf book tried "
                 + "offer meet wish made proof shared loaf sheet onSheet alter check image back about").split(" ")));
         Set<String> open = Arrays.stream(MillTown.class.getDeclaredMethods())
-                .filter(m -> !java.lang.reflect.Modifier.isPrivate(m.getModifiers()))
-                .map(java.lang.reflect.Method::getName).collect(Collectors.toCollection(TreeSet::new));
+                .filter(m -> !Modifier.isPrivate(m.getModifiers()))
+                .map(Method::getName).collect(Collectors.toCollection(TreeSet::new));
         rule(1, "the face is " + open, open.equals(face));
         rule(1, "fields that can be seen", Arrays.stream(MillTown.class.getDeclaredFields())
-                .filter(f -> !java.lang.reflect.Modifier.isPrivate(f.getModifiers()))
+                .filter(f -> !Modifier.isPrivate(f.getModifiers()))
                 .allMatch(f -> f.getName().equals("NONE")));
         rule(11, "classes: " + MillTown.class.getDeclaredClasses().length, MillTown.class.getDeclaredClasses().length < 12);
         for (Class<?> inside : MillTown.class.getDeclaredClasses()) {
-            rule(2, inside + " is not static", java.lang.reflect.Modifier.isStatic(inside.getModifiers()));
-            for (java.lang.reflect.Method m : inside.getDeclaredMethods()) {
+            rule(2, inside + " is not static", Modifier.isStatic(inside.getModifiers()));
+            for (Method m : inside.getDeclaredMethods()) {
                 rule(1, inside + " has a method of the face: " + m.getName(), !face.contains(m.getName()));
                 rule(11, m + " takes many parameters", m.getParameterCount() <= 7);
             }
             long fields = Arrays.stream(inside.getDeclaredFields())
-                    .filter(f -> !java.lang.reflect.Modifier.isStatic(f.getModifiers())).count();
+                    .filter(f -> !Modifier.isStatic(f.getModifiers())).count();
             rule(11, inside + " has " + fields + " fields", fields <= 20);
         }
+    }
+
+    /** A method as the document's face writes it, without the names of what it takes. */
+    private static String written(Method m) {
+        return Modifier.toString(m.getModifiers()) + " " + m.getReturnType().getName() + " " + m.getName()
+                + Arrays.stream(m.getParameterTypes()).map(Class::getName).collect(Collectors.joining(", ", "(", ")"));
+    }
+
+    /** The face as the document writes it: what each call takes and answers. */
+    private static void faceOf(Path document) throws IOException {
+        String text = Files.readString(document);
+        Set<String> due = new TreeSet<>();
+        Matcher told = Pattern.compile("\\n    (public (?:int|boolean) \\w+\\()(.*)\\);").matcher(text);
+        while (told.find()) {
+            due.add(told.group(1) + told.group(2).replaceAll(" \\w+(?=,|$)", "") + ")");
+        }
+        Set<String> has = Arrays.stream(MillTown.class.getMethods()).filter(m -> m.getDeclaringClass() == MillTown.class)
+                .map(LanguageTest::written).collect(Collectors.toCollection(TreeSet::new));
+        rule(1, "the document's face is " + due + ", the class's " + has, due.size() == 43 && due.equals(has));
+        rule(1, "the class is public and final", Modifier.toString(MillTown.class.getModifiers()).equals("public final"));
+        rule(1, "its constructor", Arrays.stream(MillTown.class.getDeclaredConstructors())
+                .allMatch(c -> Modifier.isPublic(c.getModifiers()) && c.getParameterCount() == 0));
     }
 
     private static void words(String code) {
@@ -78,6 +102,7 @@ public final class LanguageTest {
         String code = Files.readString(source);
         String bare = code.replaceAll("(?s)/\\*.*?\\*/", "").replaceAll("//[^\\n]*", "");
         face();
+        faceOf(Path.of(System.getProperty("shared", "../shared"), "DOC.md"));
         words(bare);
         lengths(Files.readAllLines(source));
         System.out.println("LanguageTest: " + wrong + " rules broken");
