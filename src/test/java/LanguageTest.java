@@ -54,6 +54,10 @@ public final class LanguageTest {
 
     /** The face as the document writes it: what each call takes and answers. */
     private static void faceOf(Path document) throws IOException {
+        if (!Files.isRegularFile(document)) {
+            System.out.println("without " + document + " the face isn't held against it");
+            return;
+        }
         String text = Files.readString(document);
         Set<String> due = new TreeSet<>();
         Matcher told = Pattern.compile("\\n    (public (?:int|boolean) \\w+\\()(.*)\\);").matcher(text);
