@@ -345,6 +345,11 @@ final class EdgesOfPlans {
         t.kind(0, 20, 20, 1, 0, 0);
         t.wish(0, 10);
         list(on, t, "2 more by A or B", new int[] {0, 2, 2}, 0, 2, 3, 0);
+        // The same where the BASE is as high as the later A.
+        MillTown high = new MillTown();
+        high.kind(0, 20, 20, 1, 0, 0);
+        high.wish(0, 18);
+        list(on, high, "2 less by A or B", new int[] {4, 4, 4}, 4, 3, 4, 0);
         // WISHES that no list comes near to: B of 35 and of 39 are alike, 37 lies between.
         MillTown far = new MillTown();
         int[][] kinds = {{14, 53, 169}, {15, 28, 529}, {17, 40, 193}};
@@ -528,6 +533,16 @@ final class EdgesOfPlans {
             t.price(1, 0, 15);
             on.is(hours + " coins for 4 loaves of 15", t.shared(0, NONE), hours < 60 ? 1 : 0);
         }
+        MillTown all = new MillTown();
+        all.mill(4, 100, 0, 0);
+        all.shop(0, 0, 0);
+        for (int home = 0; home < 24; home++) {
+            all.home(0, 0);
+            all.person(home, 30, 1);
+        }
+        on.is("all HOMES", all.shared(0, NONE), 24);
+        all.work(23, 3, 0, 1);
+        on.is("all but one", all.shared(0, NONE), 23);
         MillTown gone = new MillTown();
         gone.shop(0, 0, 0);
         gone.home(0, 0);

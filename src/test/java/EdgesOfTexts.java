@@ -148,6 +148,10 @@ final class EdgesOfTexts {
         pay(on, " ".repeat(292) + "price 7;", 7);
         pay(on, "price 7;" + "\n".repeat(292), 7);
         fault(on, " ".repeat(294) + "price ", 1, 300);
+        fault(on, " ".repeat(295) + "price", 1, 300);
+        fault(on, " ".repeat(296) + "pric", 1, 296);
+        fault(on, " ".repeat(293) + "when 1<", 1, 300);
+        fault(on, " ".repeat(293) + "price 1", 1, 300);
     }
 
     private static void blanks(Edge on) {
@@ -274,6 +278,7 @@ final class EdgesOfTexts {
         notSo(on, "2<1 and 1<2");
         so(on, "1<2 or 2<1");
         so(on, "2<1 or 1<2");
+        so(on, "1<2 or 1<2");
         notSo(on, "2<1 or 2<1");
         so(on, "1<2 or 2<1 and 2<1");
         so(on, "2<1 and 2<1 or 1<2");

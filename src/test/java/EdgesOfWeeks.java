@@ -600,6 +600,15 @@ final class EdgesOfWeeks {
             on.is("COINS less bales", t.millOf(0, 2), 9000 - d[1] * 1000 + 2000);
             on.is("YARN then", t.millOf(0, 3), d[2]);
         }
+        // 19 PIECES of 19 pounds: one pound more than a bale.
+        MillTown more = weaving(9000, -1000);
+        more.kind(0, 10, 20, 19, 0, 0);
+        more.order(0, 19, 100, 0, 0);
+        more.weeks(1);
+        on.is("PIECES of 361 pounds", more.millOf(0, 9), 19);
+        on.is("YARN then", more.millOf(0, 3), 720 - 361);
+        on.is("COINS less two bales", more.millOf(0, 2), 9000 - 2000 + 1900);
+        onePoundLacks(on);
         MillTown none = spinning(9000, 500);
         none.order(0, 32, 100, 1, 1);
         none.order(0, 1, 100, 2, 2);
@@ -610,6 +619,24 @@ final class EdgesOfWeeks {
         none.weeks(1);
         on.is("one PIECE more", none.millOf(0, 3), 350);
         on.is("one bale", none.millOf(0, 2), coins + 3200 - 1000 + 100);
+    }
+
+    /** The first weaver uses up a bale by 360 PIECES of one pound; the second lacks one for the last. */
+    private static void onePoundLacks(Edge on) {
+        MillTown t = new MillTown();
+        t.kind(0, 10, 20, 1, 0, 0);
+        t.mill(7, 200, 9000, -1000);
+        t.shop(0, 0, 0);
+        t.home(0, 10000);
+        t.person(0, 30, 10);
+        t.work(0, 1, 0, 6);
+        t.person(0, 30, 1);
+        t.work(1, 1, 0, 1);
+        t.order(0, 361, 100, 0, 0);
+        t.weeks(1);
+        on.is("PIECES of a pound", t.millOf(0, 9), 361);
+        on.is("YARN behind the last", t.millOf(0, 3), 359);
+        on.is("COINS less both bales", t.millOf(0, 2), 9000 - 2000 + 36100);
     }
 
     /** One weaver can make 20 PIECES of so many pounds. */
@@ -643,6 +670,19 @@ final class EdgesOfWeeks {
             on.is("COINS then", t.millOf(0, 2), d[0] - bales * 1000 + d[1] * 100);
             on.is("YARN then", t.millOf(0, 3), bales * 360 - d[1] * 10);
             on.is("it ran", t.millOf(0, 7), 2);
+        }
+        cheapCotton(on);
+    }
+
+    /** The least that a bale can cost. */
+    private static void cheapCotton(Edge on) {
+        for (int coins = 0; coins <= 2; coins++) {
+            MillTown t = weaving(coins, -1000);
+            t.price(0, 0, 1);
+            t.order(0, 6, 100, 0, 0);
+            t.weeks(1);
+            on.is("PIECES of cotton at 1 with COINS " + coins, t.millOf(0, 9), coins < 1 ? 0 : 6);
+            on.is("COINS then", t.millOf(0, 2), coins < 1 ? 0 : coins - 1 + 600);
         }
     }
 

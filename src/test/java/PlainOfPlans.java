@@ -327,6 +327,7 @@ final class PlainOfPlans {
         t.work(0, 1, 0, 3);
         t.order(3, 7, 7, 2, 9);
         t.strike(1, true);
+        t.strike(2, true);
         t.offer(1, 9);
         on.is("they MEET", t.meet(), 7);
         t.offer(1, 9);
@@ -336,6 +337,19 @@ final class PlainOfPlans {
         on.is("the OFFER of one side alone", t.meet(), NONE);
         t.offer(1, 8);
         on.is("with the other's", t.meet(), 6);
+        toldBehindBack(on, t);
+    }
+
+    /** What is told behind BACK has nothing of what stood in its place. */
+    private static void toldBehindBack(Edge on, MillTown t) {
+        on.is("a MILL", t.mill(5, 60, 7, 8), 2);
+        on.is("a SHOP", t.shop(9, 10, 11), 1);
+        on.is("a HOME", t.home(1, 12), 2);
+        on.is("a PERSON", t.person(2, 13, 4), 4);
+        on.are("the MILL", Edge.facts(10, what -> t.millOf(2, what)), 5, 0, 7, 0, 0, 0, NONE, 0, NONE, 0);
+        on.are("the SHOP", Edge.facts(3, what -> t.shopOf(1, what)), 9, 0, 0);
+        on.are("the HOME", Edge.facts(7, what -> t.homeOf(2, what)), 12, 0, 0, 4, 1, 0, 0);
+        on.are("the PERSON", Edge.facts(9, what -> t.personOf(4, what)), 2, 13, 4, 0, NONE, 0, NONE, 0, 0);
     }
 
     private static void triedAsked(Edge on) {
@@ -437,6 +451,29 @@ final class PlainOfPlans {
         on.is("HUNGRY by a TEXT of WEEK 2", t.shared(100, NONE), 0);
         t.force(Due.read(t, "price 1; age 0 to 99 hours 1;"), NONE, 3, 3);
         on.is("HUNGRY with a TEXT of WEEK 3", t.shared(100, NONE), 0);
+        sharedBehindBack(on);
+    }
+
+    /** What a MILL that is no more would have brought counts no more. */
+    private static void sharedBehindBack(Edge on) {
+        MillTown t = new MillTown();
+        t.mill(4, 100, 0, 0);
+        t.shop(0, 0, 0);
+        t.home(0, 0);
+        t.person(0, 30, 5);
+        t.image();
+        t.mill(4, 100, 5000, -1000);
+        t.work(0, 1, 1, 4);
+        Due.enforce(t, "price 20;");
+        t.order(0, 6, 100, 0, 0);
+        t.weeks(1);
+        on.is("HUNGRY with two MILLS", t.shared(100, NONE), 0);
+        on.is("PIECES with two MILLS", t.shared(100, PIECES), 7);
+        t.back();
+        on.is("HUNGRY with one", t.shared(100, NONE), 1);
+        on.is("PIECES with one", t.shared(100, PIECES), 0);
+        on.is("how it runs", t.shared(100, 0), 2);
+        on.is("how the other runs", t.shared(100, 1), NONE);
     }
 
     private static void sharedRuns(Edge on) {
