@@ -271,6 +271,20 @@ final class EdgesOfPlans {
         list(on, plainKind(40), "40 by A", new int[] {0, 40, 0}, 0, 40, 0, 0);
         list(on, plainKind(80), "80 by B", new int[] {0, 0, 40}, 0, 0, 40, 0);
         list(on, plainKind(82), "82 by B", new int[] {0, 0, 40}, 0, 2, 40, 0);
+        // A BASE of -1 would give both with an A of 2.
+        MillTown below = new MillTown();
+        below.kind(0, 10, 20, 1, 0, 0);
+        below.kind(1, 20, 20, 1, 0, 0);
+        below.wish(0, 1);
+        below.wish(1, 3);
+        list(on, below, "1 and 3", new int[] {0, 1, 0}, 0, 1, 0, 1);
+        // A BASE of -1 with an A of 1 would give 3 and 2: 4 of squares.
+        MillTown less = new MillTown();
+        less.kind(0, 40, 40, 1, 0, 0);
+        less.kind(1, 30, 40, 1, 0, 0);
+        less.wish(0, 3);
+        less.wish(1, 0);
+        list(on, less, "3 and 0", new int[] {0, 0, 0}, 1, 0, 0, 5);
     }
 
     private static void listCut(Edge on) {
@@ -350,6 +364,12 @@ final class EdgesOfPlans {
         high.kind(0, 20, 20, 1, 0, 0);
         high.wish(0, 18);
         list(on, high, "2 less by A or B", new int[] {4, 4, 4}, 4, 3, 4, 0);
+        MillTown wide = new MillTown();
+        wide.kind(0, 20, 20, 1, 0, 0);
+        wide.wish(0, 14);
+        list(on, wide, "2 more by A or B, from a lower A", new int[] {0, 1, 5}, 0, 1, 6, 0);
+        wide.wish(0, 22);
+        list(on, wide, "2 more by A or B, from a BASE above A", new int[] {8, 1, 5}, 8, 1, 6, 0);
         // WISHES that no list comes near to: B of 35 and of 39 are alike, 37 lies between.
         MillTown far = new MillTown();
         int[][] kinds = {{14, 53, 169}, {15, 28, 529}, {17, 40, 193}};

@@ -512,6 +512,12 @@ final class EdgesOfTexts {
         pay(on, "price 9999/5000*5000*5000*4/9999;", 20000);
         pay(on, "price 5000/9999*9999;", 5000);
         pay(on, "price 9999/7*9998/9999*7/9998*9;", 9);
+        so(on, "5/-1<0");
+        so(on, "5/-1<-4");
+        so(on, "0>5/-1");
+        so(on, "-5/-1>4");
+        so(on, "5/-2<-2");
+        notSo(on, "5/-1>-4");
     }
 
     private static void overZero(Edge on) {

@@ -550,6 +550,33 @@ final class PlainOfPlans {
         on.is("the WEEK goes by as it did", t.personOf(0, 8), 140);
         on.is("back() once more", t.back(), 2);
         on.is("PIECES left", t.orderOf(0, 1), 500 - 13);
+        weekAnew(on);
+    }
+
+    /** A HOME buys two LOAVES and one on TRUST in WEEK 4, and lacks one; by another way it is GONE then. */
+    private static void weekAnew(Edge on) {
+        MillTown t = new MillTown();
+        t.mill(4, 100, 5000, -1000);
+        t.shop(1000, 100, 0);
+        t.home(0, 0);
+        t.person(0, 30, 1);
+        t.work(0, 3, 0, 1);
+        t.mean(1, 10);
+        t.image();
+        t.strike(0, true);
+        t.fund(1000, 0, 20);
+        t.weeks(3);
+        t.fund(0, 0, 40);
+        t.weeks(1);
+        t.fund(0, 0, 20);
+        t.weeks(1);
+        on.are("HUNGER", Edge.facts(5, w -> t.book(0, w, 1)), 2, 1, 2, 0, 1);
+        on.is("LOAVES", t.about(9), 2 + 3 + 2 + 4 + 3);
+        t.back();
+        t.weeks(5);
+        on.are("HUNGER by the other way", Edge.facts(5, w -> t.book(0, w, 1)), 4, 4, 4, 4, 0);
+        on.is("HUNGER of one that is GONE", t.homeOf(0, 6), 0);
+        on.is("LOAVES by the other way", t.about(9), 0);
     }
 
     private static void aboutAsked(Edge on) {

@@ -265,6 +265,18 @@ final class PlainOfTown {
             on.are("HOURS in WEEK " + week, Edge.facts(2, m -> t.hours(30, m, of, 0)), first[week] == 0 ? 60 : first[week] + 1,
                     second[week] == 0 ? 60 : second[week] + 1);
         }
+        theTextBehindFault(on);
+    }
+
+    /** What stood ahead of a FAULT is no CLAUSE of the TEXT that is read next. */
+    private static void theTextBehindFault(Edge on) {
+        MillTown t = new MillTown();
+        t.mill(1, 50, 0, 0);
+        Due.enforce(t, "price 5; age 0 to 99 hours 50;");
+        on.is("a FAULT behind a price and an age", Due.read(t, "price 7; age 0 to 99 hours 40; clean 3; meals x"), NONE);
+        on.is("the next TEXT", Due.enforce(t, "meals 1;"), 1);
+        on.is("PAY by the first", t.pay(0, 0, 0, 0), 5);
+        on.is("HOURS by both", t.hours(30, 0, 0, 0), 49);
     }
 
     private static void pricesTogether(Edge on) {
